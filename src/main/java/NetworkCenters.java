@@ -930,7 +930,8 @@ public final class NetworkCenters {
 
         /** The distance of a node and a point, times the point's bottom. */
         int reach(int node, int edge, int top, int bottom) {
-            return Math.min(wayOut(node, edge) * bottom + top, wayBack(node, edge) * bottom - top);
+            int place = edge * MAX_NODES + node;
+            return Math.min(outs.get(place) * bottom + top, backs.get(place) * bottom - top);
         }
 
         int weighted(int node, int edge, int top, int bottom) {
@@ -1178,7 +1179,7 @@ public final class NetworkCenters {
         }
     }
 
-    /** The radii of all sets of nodes with one, two and three centers, and the groups chosen by them. */
+    /** The radii of the sets of nodes for one to three centers, and the groups chosen by them. */
     private static final class Groups {
         private final Survey survey;
         private int ratedTurn;
@@ -1210,11 +1211,11 @@ public final class NetworkCenters {
             for (int i = 0; i < survey.points; i++) {
                 lowerRadii(survey.edges.get(i), survey.tops.get(i), survey.bottoms.get(i));
             }
-            for (int k = 2; k <= MAX_CENTERS; k++) {
-                for (int set = 0; set <= all; set++) {
-                    divide(k, set);
-                }
+            for (int set = 0; set <= all; set++) {
+                divide(2, set);
             }
+            // Nothing asks for the 3-radius of fewer nodes.
+            divide(MAX_CENTERS, all);
         }
 
         /** Lowers the radii of the sets that are less high at a point than at all points before. */
