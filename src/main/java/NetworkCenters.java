@@ -1333,10 +1333,14 @@ public final class NetworkCenters {
 
         /** Whether there is anything but spaces left; goes to it. */
         boolean hasMore() {
+            skipSpaces();
+            return place < length;
+        }
+
+        private void skipSpaces() {
             while (place < length && signHere() == ' ') {
                 place++;
             }
-            return place < length;
         }
 
         private int signHere() {
@@ -1369,7 +1373,7 @@ public final class NetworkCenters {
             for (int i = 0; good && i < pattern.length(); i++) {
                 int sign = pattern.charAt(i);
                 kind = i == 0 ? sign : kind;
-                hasMore();
+                skipSpaces();
                 good = sign == '#' ? readNumber() : readSign(sign);
             }
             return good;
