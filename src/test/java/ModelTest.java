@@ -1,17 +1,9 @@
-import java.lang.reflect.InvocationTargetException;
-import java.lang.reflect.Method;
-import java.util.HashMap;
-import java.util.Map;
-import java.util.TreeMap;
-
 /**
  * Runs the class and the Model side by side through made-up runs of calls: any numbers as arguments,
  * wrong ones too. Each call must have the same answer or the same exception in both.
  * Arguments: how many runs, and the seed (both have a value of their own if they are left out).
  */
 public final class ModelTest {
-    private static final Map<String, Method> METHODS = new HashMap<>();
-    private static final Map<String, int[]> SEEN = new TreeMap<>();
     private static final String[] QUERIES = {
         "count", "edge", "node", "stretch", "distance", "next", "diameter", "distanceTo", "isAllowed", "height",
         "cost", "corner", "corner", "radius", "center", "critical", "median", "radiusOf", "group", "covering",
@@ -20,30 +12,18 @@ public final class ModelTest {
         Integer.MAX_VALUE, Integer.MIN_VALUE, 1 << 30};
 
     private long seed;
-    private NetworkCenters real;
-    private Model model;
-    private int calls;
-    private final StringBuilder history = new StringBuilder();
+    private final Twin twin = new Twin();
+    private final Model model = twin.model;
 
     public static void main(String[] args) {
         int runs = args.length > 0 ? Integer.parseInt(args[0]) : 150;
         long seed = args.length > 1 ? Long.parseLong(args[1]) : 1;
-        for (Method m : NetworkCenters.class.getDeclaredMethods()) {
-            METHODS.put(m.getName(), m);
-        }
         for (int run = 0; run < runs; run++) {
             new ModelTest(seed * 1000003 + run).go(run);
         }
-        boolean poor = false;
-        for (Map.Entry<String, int[]> e : SEEN.entrySet()) {
-            boolean never = e.getValue()[0] == 0;
-            poor |= never;
-            if (args.length > 0 || never) {
-                System.out.println(e.getKey() + ": answers " + e.getValue()[0] + ", exceptions " + e.getValue()[1]);
-            }
-        }
+        boolean all = Twin.allSeen(args.length > 0);
         System.out.println("ModelTest: " + runs + " runs agree");
-        if (poor || SEEN.size() != 35) {
+        if (!all) {
             System.out.println("ModelTest: some calls never answered");
             System.exit(1);
         }
@@ -59,12 +39,10 @@ public final class ModelTest {
     }
 
     private void go(int run) {
-        real = new NetworkCenters();
-        model = new Model();
         if (run % 4 != 0) {
             grow();
         }
-        while (calls < 500) {
+        while (twin.calls < 500) {
             int kind = pick(20);
             if (kind < 3) {
                 change();
@@ -175,7 +153,7 @@ public final class ModelTest {
             none("clearText");
         }
         int commands = pick(5);
-        for (int i = 0; i < commands && calls < 440; i++) {
+        for (int i = 0; i < commands && twin.calls < 440; i++) {
             String s = command();
             for (int k = 0; k < s.length(); k++) {
                 boolean slip = pick(120) == 0;
@@ -211,46 +189,6 @@ public final class ModelTest {
     }
 
     private void call(String name, int... args) {
-        if (calls >= 512) {
-            return;
-        }
-        calls++;
-        StringBuilder shown = new StringBuilder(name).append('(');
-        for (int i = 0; i < args.length; i++) {
-            shown.append(i == 0 ? "" : ", ").append(args[i]);
-        }
-        shown.append(')');
-        history.append(shown).append("; ");
-        String due = modelAnswer(name, args);
-        String got = realAnswer(name, args);
-        SEEN.computeIfAbsent(name, k -> new int[2])[due.startsWith("throws") ? 1 : 0]++;
-        if (!due.equals(got)) {
-            System.out.println(history);
-            System.out.println(shown + " answered " + got + ", due is " + due);
-            System.exit(1);
-        }
-    }
-
-    private String modelAnswer(String name, int[] args) {
-        try {
-            return Long.toString(model.call(name, args));
-        } catch (IllegalStateException | IllegalArgumentException | IndexOutOfBoundsException e) {
-            return "throws " + e.getClass().getSimpleName();
-        }
-    }
-
-    private String realAnswer(String name, int[] args) {
-        Object[] boxed = new Object[args.length];
-        for (int i = 0; i < args.length; i++) {
-            boxed[i] = args[i];
-        }
-        try {
-            Object answer = METHODS.get(name).invoke(real, boxed);
-            return answer instanceof Boolean b ? b ? "1" : "0" : answer.toString();
-        } catch (InvocationTargetException e) {
-            return "throws " + e.getCause().getClass().getSimpleName();
-        } catch (IllegalAccessException e) {
-            throw new AssertionError(e);
-        }
+        twin.call(name, args);
     }
 }
