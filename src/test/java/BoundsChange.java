@@ -213,6 +213,14 @@ final class BoundsChange {
         desk.due(225, open, x -> x.radius(136, 0));
         Desk.Setup uneven = open.then(x -> Desk.script(x, "w0=1;w1=2;w2=3;w4=4;w5=5;w6=6;w7=7;"));
         desk.fraction(175, 8, uneven, x -> x.center(136, 1), x -> x.center(136, 2));
+        // From node 2 the point lies behind the place at which the way by the other end becomes the shorter one.
+        Desk.Setup behind = x -> {
+            x.reset(3);
+            Desk.script(x, "0-1:10;0-2:5;2-1:9;w1=9;");
+        };
+        desk.fraction(19, 2, behind, x -> x.radius(7, 0), x -> x.radius(7, 1));
+        desk.fraction(19, 2, behind, x -> x.center(7, 1), x -> x.center(7, 2));
+        desk.due(5, behind, x -> x.critical(7));
         desk.says(TERMS, "of several the one on the edge with the lowest number, of these the one with the least t");
         Desk.Setup shut = Desk.RING.then(x -> Desk.script(x, "x3:4-6;x2:4-6;x1:4-6;x0:4-6;"));
         desk.due(0, shut, x -> x.center(15, 0));
@@ -220,5 +228,11 @@ final class BoundsChange {
         desk.due(6, PATH.then(x -> x.forbid(0, 6, 10)), x -> x.center(7, 1));
         desk.due(0, PATH.then(x -> x.forbid(0, 6, 10)), x -> x.center(7, 0));
         desk.due(10, PATH.then(x -> x.forbid(0, 5, 10)), x -> x.center(7, 1));
+        Desk.Setup nine = x -> {
+            x.reset(2);
+            Desk.script(x, "0-1:9;x0:5-6;x0:4-5;");
+        };
+        desk.fraction(4, 1, nine, x -> x.center(3, 1), x -> x.center(3, 2));
+        desk.due(5, nine, x -> x.radius(3, 0));
     }
 }
