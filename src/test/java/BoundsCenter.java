@@ -103,6 +103,11 @@ final class BoundsCenter {
         center(PATH, 0, 0, 0, 1);
         center(PATH.then(x -> x.forbid(0, 0, 1)), 0, 0, 0, 1);
         center(THIRDS, 7, 1, 2, 3);
+        // The same edge from its other end: now node 0 comes nearer with t.
+        center(x -> {
+            x.reset(2);
+            x.connect(1, 0, 9);
+        }, 3, 0, 9, 2);
     }
 
     private void criticalNodes() {

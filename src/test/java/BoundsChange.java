@@ -85,6 +85,8 @@ final class BoundsChange {
         desk.says(2, "Starts a new network with some nodes, without edges, with the initial weights and trends.");
         afresh(FULL, PATH);
         afresh(Desk.RING, x -> x.reset(4));
+        afresh(Desk.NEW, x -> x.reset(1));
+        afresh(PATH.then(x -> x.forbid(0, 7, 9)), PATH);
         Desk.Setup again = PATH.then(x -> x.forbid(0, 3, 5)).then(x -> x.reset(3));
         desk.due(NONE, again, x -> x.distance(0, 1));
         desk.due(NONE, again, x -> x.next(0, 1));
@@ -92,6 +94,14 @@ final class BoundsChange {
         desk.due(0, Desk.PAIR.then(x -> x.reset(2)), x -> x.count(3));
         desk.due(1, again.then(x -> x.connect(0, 1, 10)), x -> Desk.truth(x.isAllowed(0, 4, 1)));
         desk.due(NONE, again.then(x -> x.connect(0, 1, 10)), x -> x.distance(1, 2));
+        Desk.Setup shorter = x -> {
+            x.connect(0, 1, 50);
+            x.forbid(0, 30, 40);
+            x.reset(2);
+            x.connect(0, 1, 10);
+        };
+        desk.due(5, shorter, x -> x.radius(3, 0));
+        desk.due(5, shorter, x -> x.center(3, 1));
         desk.due(0, FULL.then(x -> x.reset(8)), x -> x.connect(0, 1, 50));
     }
 
@@ -148,6 +158,7 @@ final class BoundsChange {
         });
         desk.says(8, "Removes a stretch.");
         afresh(closed, x -> x.allow(0));
+        IntStream.range(0, 6).forEach(i -> afresh(FULL.then(x -> x.setWeight(i, 1)), x -> x.allow(i)));
         afresh(closed.then(x -> x.forbid(0, 6, 7)), x -> x.allow(0));
     }
 
@@ -213,6 +224,15 @@ final class BoundsChange {
         desk.due(225, open, x -> x.radius(136, 0));
         Desk.Setup uneven = open.then(x -> Desk.script(x, "w0=1;w1=2;w2=3;w4=4;w5=5;w6=6;w7=7;"));
         desk.fraction(175, 8, uneven, x -> x.center(136, 1), x -> x.center(136, 2));
+        // Here almost every pair of nodes has lines that cross on almost every edge.
+        Desk.Setup crowded = x -> {
+            x.reset(8);
+            Desk.script(x, "0-1:42;1-2:43;0-3:46;3-4:42;3-5:44;1-6:50;1-7:41;0-6:45;2-6:44;1-5:40;0-5:50;1-4:49;");
+            Desk.script(x, "w0=5;w1=5;w2=5;w3=2;w4=2;w5=5;w6=7;w7=2;");
+        };
+        desk.due(11, crowded, x -> x.center(18, 0));
+        desk.due(14, crowded, x -> x.center(18, 1));
+        desk.due(70, crowded, x -> x.radius(18, 0));
         // From node 2 the point lies behind the place at which the way by the other end becomes the shorter one.
         Desk.Setup behind = x -> {
             x.reset(3);

@@ -100,6 +100,17 @@ final class BoundsDistance {
         corners(DETOUR, 0, new int[][] {{0, 1, 2, 1}, {4, 1, 6, 1}, {9, 2, 11, 2}, {5, 1, 6, 1}, {11, 2, 11, 2},
             {6, 1, 6, 1}, {10, 1, 2, 1}});
         corners(FULL, 0, new int[][] {{0, 1, 900, 1}, {25, 1, 1125, 1}, {50, 1, 900, 1}});
+        // The slope changes by no more than 1 where a line meets a slightly steeper one.
+        Desk.Setup overtaking = x -> {
+            x.reset(3);
+            Desk.script(x, "0-1:10;2-0:6;w0=2;w1=0;");
+        };
+        corners(overtaking, 0, new int[][] {{0, 1, 6, 1}, {6, 1, 12, 1}, {10, 1, 20, 1}});
+        Desk.Setup turnedAround = x -> {
+            x.reset(3);
+            Desk.script(x, "1-0:10;2-0:6;w0=2;w1=0;");
+        };
+        corners(turnedAround, 0, new int[][] {{0, 1, 20, 1}, {4, 1, 12, 1}, {10, 1, 6, 1}});
         // Where a node turns below the height, there is no corner.
         corners(RINGED, 0, new int[][] {{0, 1, 6, 1}, {2, 1, 8, 1}, {4, 1, 6, 1}});
         corners(RINGED.then(x -> x.setWeight(3, 9)), 0, new int[][] {{0, 1, 9, 1}, {4, 1, 45, 1}});
